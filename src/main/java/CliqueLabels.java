@@ -25,7 +25,6 @@ public final class CliqueLabels {
     private static final int TOO_HEAVY = 3;
     private static final int TOO_GREAT_NUMBER = 4;
 
-    private static final int COLOR = 4;
     private static final int FIRST_PLACE = 10;
     private static final int LAST_PLACE = FIRST_PLACE + MOST_PLACES - 1;
 
@@ -37,6 +36,7 @@ public final class CliqueLabels {
     private final History history = new History();
     private final EdgeText text = new EdgeText();
     private final Coloring coloring = new Coloring();
+    private final Cliques cliques = new Cliques();
     private final Bound told = new Bound();
     private final HandleSearch search = new HandleSearch();
     private int productsMade = 0;
@@ -222,9 +222,7 @@ public final class CliqueLabels {
         if (what < 0 || what > LAST_PLACE || (what > 5 && what < FIRST_PLACE)) {
             throw new IllegalArgumentException("no such property");
         }
-        if (what == COLOR) {
-            coloring.find(now);
-        }
+        searchGraph();
         return propertyOf(vertex, what);
     }
 
@@ -262,19 +260,17 @@ public final class CliqueLabels {
         if (what < 0 || what > LAST_COUNT) {
             throw new IllegalArgumentException("no such number");
         }
+        searchGraph();
         return numberOf(what);
     }
 
     public double nearness() {
-        told.tellOf(now);
-        if (told.above <= 0) {
-            return 0.0;
-        }
-        double weight = now.weightOf(now.heaviestWith(0));
-        return weight * (double) told.below / (double) told.above;
+        searchGraph();
+        return share();
     }
 
     public long digest() {
+        searchGraph();
         long hash = HASH_START;
         for (int what = 0; what <= LAST_COUNT; what++) {
             hash = mix(hash, numberOf(what));
@@ -284,7 +280,7 @@ public final class CliqueLabels {
             hash = mix(hash, now.handle[place]);
         }
         hash = mixBounds(hash);
-        hash = mix(hash, bitsOf(nearness()));
+        hash = mix(hash, bitsOf(share()));
         hash = mix(hash, text.length);
         for (int k = 0; k < text.length; k++) {
             hash = mix(hash, text.codes[k]);
@@ -341,7 +337,12 @@ public final class CliqueLabels {
         history.save(now, productsMade);
     }
 
-    /** Looks at no coloring but the one that was found last: the caller finds it first where COLOR is asked. */
+    /** Finds the coloring and the cliques, which propertyOf, numberOf and share look at. */
+    private void searchGraph() {
+        coloring.find(now);
+        cliques.find(now);
+    }
+
     private int propertyOf(int number, int what) {
         switch (what) {
             case 0:
@@ -352,10 +353,10 @@ public final class CliqueLabels {
                 return product(now.labels[number], now.labels[number]);
             case 3:
                 return product(now.labels[number], now.handle);
-            case COLOR:
+            case 4:
                 return coloring.colors[number];
             case 5:
-                return now.weightOf(now.heaviestWith(1 << number));
+                return cliques.weightOf(cliques.heaviestWith(1 << number));
             default:
                 return now.labels[number][what - FIRST_PLACE];
         }
@@ -370,13 +371,12 @@ public final class CliqueLabels {
             case 2:
                 return now.edges();
             case 3:
-                return now.weightOf(now.heaviestWith(0));
+                return cliques.weightOf(cliques.heaviestWith(0));
             case 4:
-                return now.heaviestWith(0);
+                return cliques.heaviestWith(0);
             case 5:
-                return now.mostInClique();
+                return cliques.mostVertices();
             case 6:
-                coloring.find(now);
                 return coloring.number;
             case 7:
                 return now.unfitPairs();
@@ -397,6 +397,15 @@ public final class CliqueLabels {
             sum += taken[k] ? 1 : 0;
         }
         return sum;
+    }
+
+    private double share() {
+        told.tellOf(now);
+        if (told.above <= 0) {
+            return 0.0;
+        }
+        double weight = cliques.weightOf(cliques.heaviestWith(0));
+        return weight * (double) told.below / (double) told.above;
     }
 
     private int whyNoBound(int what) {
@@ -435,7 +444,6 @@ public final class CliqueLabels {
 
     private long mixVertices(long start) {
         long hash = start;
-        coloring.find(now);
         for (int v = 0; v < now.n; v++) {
             for (int what = 0; what <= 5; what++) {
                 hash = mix(hash, propertyOf(v, what));
@@ -638,49 +646,6 @@ public final class CliqueLabels {
             return most;
         }
 
-        boolean isClique(int mask) {
-            for (int v = 0; v < n; v++) {
-                int others = mask & ~(1 << v);
-                if (others != mask && (others & ~neighbors[v]) != 0) {
-                    return false;
-                }
-            }
-            return true;
-        }
-
-        int weightOf(int mask) {
-            int sum = 0;
-            for (int v = 0; v < n; v++) {
-                if ((mask & (1 << v)) != 0) {
-                    sum += weights[v];
-                }
-            }
-            return sum;
-        }
-
-        /** The lowest mask of the heaviest cliques that hold all vertices of the mask, itself a clique. */
-        int heaviestWith(int must) {
-            int best = must;
-            int most = weightOf(must);
-            for (int mask = 0; mask < (1 << n); mask++) {
-                if ((mask & must) == must && weightOf(mask) > most && isClique(mask)) {
-                    best = mask;
-                    most = weightOf(mask);
-                }
-            }
-            return best;
-        }
-
-        int mostInClique() {
-            int most = 0;
-            for (int mask = 0; mask < (1 << n); mask++) {
-                if (Integer.bitCount(mask) > most && isClique(mask)) {
-                    most = Integer.bitCount(mask);
-                }
-            }
-            return most;
-        }
-
         boolean unfit(int a, int b) {
             return areJoined(a, b) && product(labels[a], labels[b]) != 0;
         }
@@ -837,6 +802,50 @@ public final class CliqueLabels {
                 }
             }
             return true;
+        }
+    }
+
+    /** The weights of all cliques by their masks, NONE where a mask is no clique. */
+    private static final class Cliques {
+        private final int[] weights = new int[1 << MOST_VERTICES];
+        private int masks = 1;
+
+        void find(Graph graph) {
+            weights[0] = 0;
+            masks = 1;
+            // The masks so far are those of the vertices before v: each of them is tried with v.
+            for (int v = 0; v < graph.n; v++) {
+                for (int mask = 0; mask < masks; mask++) {
+                    boolean goesOn = weights[mask] != NONE && (mask & ~graph.neighbors[v]) == 0;
+                    weights[masks + mask] = goesOn ? weights[mask] + graph.weights[v] : NONE;
+                }
+                masks *= 2;
+            }
+        }
+
+        int weightOf(int mask) {
+            return weights[mask];
+        }
+
+        /** The lowest mask of the heaviest cliques that hold all vertices of the mask, itself a clique. */
+        int heaviestWith(int must) {
+            int best = must;
+            for (int mask = 0; mask < masks; mask++) {
+                if ((mask & must) == must && weights[mask] > weights[best]) {
+                    best = mask;
+                }
+            }
+            return best;
+        }
+
+        int mostVertices() {
+            int most = 0;
+            for (int mask = 0; mask < masks; mask++) {
+                if (weights[mask] != NONE) {
+                    most = Math.max(most, Integer.bitCount(mask));
+                }
+            }
+            return most;
         }
     }
 

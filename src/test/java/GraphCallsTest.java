@@ -234,6 +234,8 @@ public final class GraphCallsTest {
         Check.refused("multiply(0) not taken, 1 is", x, Check.STATE, () -> x.multiply(0));
         reason("8 vertices, dimension 4", pair(4, 2, 2, 2), 0);
         reason("8 vertices, dimension 3", pair(1, 3, 8, 1), 0);
+        reason("1 vertex, dimension 4 by 1", pair(1, 4, 1, 1), 0);
+        reason("8 vertices by 1, dimension 1 by 4", pair(8, 1, 1, 4), 0);
         reason("9 vertices", pair(3, 1, 3, 1), 1);
         reason("64 vertices, dimension 16", pair(8, 4, 8, 4), 1);
         reason("dimension 6", pair(2, 3, 2, 2), 2);

@@ -147,6 +147,10 @@ public final class LooksTest {
         x.label(2, 0, 3);
         x.label(2, 1, -1);
         bound("a product 0", x, -1, -1, -1);
+        x.weigh(2, 0);
+        bound("without its weight", x, 5, 2, 0);
+        Check.weights(x, 0, 0, 0);
+        bound("no weights after a bound", x, 0, 1, -1);
         CliqueLabels great = Check.graph(2, 4, "");
         Check.labels(great, 0, 9, 9, 9, 9);
         Check.handle(great, 9, 9, 9, -9);
@@ -351,6 +355,8 @@ public final class LooksTest {
         x.read();
         x.labelByColors();
         Check.dueShare("a ring of five", x.nearness(), 2.0 / 3.0);
+        x.weigh(2, 5);
+        Check.dueShare("a ring with a weight", x.nearness(), 6.0 / 15.0);
         x.begin(1, 2);
         Check.labels(x, 0, 7, 8);
         Check.handle(x, 9, -5);
@@ -407,6 +413,14 @@ public final class LooksTest {
         x.take(1);
         Check.due("digest with a snapshot", x.digest(), digestByFace(x, "01,23~!"));
         Check.due("digest saves no state", x.count(11), 2);
+        x.clearBuffer();
+        Check.type(x, "01,23,36,67,01,13");
+        x.read();
+        Check.due("digest with edges", x.digest(), digestByFace(x, ""));
+        Check.due("digest with unfit labels: pairs", x.count(7), 5);
+        x.labelByColors();
+        Check.weights(x, 0, 9, 3, 2, 8);
+        Check.due("digest with a share", x.digest(), digestByFace(x, ""));
         CliqueLabels one = Check.graph(1, 2, "");
         Check.due("digest of one", one.digest(), digestByFace(one, ""));
         for (int a = 1; a <= 9; a++) {
