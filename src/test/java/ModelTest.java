@@ -61,7 +61,8 @@ public final class ModelTest {
         if (kind < 4) {
             int size = style == 2 ? number(1, 3) : number(1, 8);
             int places = style == 2 ? number(1, 2) : number(1, 4);
-            compare("begin " + size + " " + places, run, k, () -> real.begin(size, places), () -> model.begin(size, places));
+            compare("begin " + size + " " + places, run, k,
+                () -> real.begin(size, places), () -> model.begin(size, places));
         } else if (kind < 16) {
             boolean is = pick(3) > 0;
             compare("join " + a + " " + b + " " + is, run, k, () -> real.join(a, b, is), () -> model.join(a, b, is));
@@ -93,7 +94,8 @@ public final class ModelTest {
                 () -> real.label(a, place, value), () -> model.label(a, place, value));
         } else {
             int place = number(0, d - 1);
-            compare("hold " + place + " " + value, run, k, () -> real.hold(place, value), () -> model.hold(place, value));
+            compare("hold " + place + " " + value, run, k,
+                () -> real.hold(place, value), () -> model.hold(place, value));
         }
     }
 
