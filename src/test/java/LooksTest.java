@@ -16,6 +16,7 @@ public final class LooksTest {
         promise26Cliques();
         promise27();
         promise28();
+        promise28Shares();
         Check.finish("LooksTest");
     }
 
@@ -374,15 +375,17 @@ public final class LooksTest {
         for (int what = 0; what <= 11; what++) {
             hash = 31 * hash + x.count(what);
         }
-        for (int v = 0; v < x.count(0); v++) {
+        int n = x.count(0);
+        for (int v = 0; v < n; v++) {
             for (int what = 0; what <= 13; what = what == 5 ? 10 : what + 1) {
                 hash = 31 * hash + x.vertex(v, what);
             }
-            for (int other = 0; other < x.count(0); other++) {
+            for (int other = 0; other < n; other++) {
                 hash = 31 * hash + x.joined(v, other);
             }
         }
-        for (int place = 0; place < x.count(1); place++) {
+        int d = x.count(1);
+        for (int place = 0; place < d; place++) {
             hash = 31 * hash + x.handle(place);
         }
         for (int part = 0; part <= 2; part++) {
@@ -402,37 +405,45 @@ public final class LooksTest {
         return hash;
     }
 
+    private static void digest(String what, CliqueLabels x, String buffer) {
+        Check.due("digest " + what, x.digest(), digestByFace(x, buffer));
+    }
+
     private static void promise28() {
         CliqueLabels x = new CliqueLabels();
-        Check.due("digest of a new object", x.digest(), digestByFace(x, ""));
+        digest("of a new object", x, "");
         Check.type(x, "01,23~!");
-        Check.due("digest with a buffer", x.digest(), digestByFace(x, "01,23~!"));
+        digest("with a buffer", x, "01,23~!");
         x.begin(8, 4);
         x.labelByColors();
-        Check.due("digest of eight", x.digest(), digestByFace(x, "01,23~!"));
         x.take(1);
-        Check.due("digest with a snapshot", x.digest(), digestByFace(x, "01,23~!"));
+        digest("of eight with a snapshot", x, "01,23~!");
         Check.due("digest saves no state", x.count(11), 2);
-        x.clearBuffer();
-        Check.type(x, "01,23,36,67,01,13");
-        x.read();
-        Check.due("digest with edges", x.digest(), digestByFace(x, ""));
-        Check.due("digest with unfit labels: pairs", x.count(7), 5);
-        x.labelByColors();
-        Check.weights(x, 0, 9, 3, 2, 8);
-        Check.due("digest with a share", x.digest(), digestByFace(x, ""));
-        CliqueLabels one = Check.graph(1, 2, "");
-        Check.due("digest of one", one.digest(), digestByFace(one, ""));
+        CliqueLabels y = Check.graph(8, 4, "");
+        y.labelByColors();
+        Check.type(y, "01,23,36,67,01,13");
+        y.read();
+        digest("with unfit labels", y, "");
+        Check.due("digest with unfit labels: pairs", y.count(7), 5);
+        y.labelByColors();
+        Check.weights(y, 0, 9, 3, 2, 8);
+        digest("with a share", y, "");
+    }
+
+    private static void promise28Shares() {
+        digest("of one", Check.graph(1, 2, ""), "");
         for (int a = 1; a <= 9; a++) {
             for (int b = -9; b <= 9; b++) {
-                Check.labels(one, 0, a, b);
-                Check.handle(one, 1, 9 - a);
-                Check.due("digest with labels " + a + " " + b, one.digest(), digestByFace(one, ""));
+                CliqueLabels x = Check.graph(1, 2, "");
+                Check.labels(x, 0, a, b);
+                Check.handle(x, 1, 9 - a);
+                digest("with labels " + a + " " + b, x, "");
             }
         }
-        Check.weights(one, 9);
-        Check.labels(one, 0, 9, -8);
-        Check.handle(one, 8, 9);
-        Check.due("digest without a bound", one.digest(), digestByFace(one, ""));
+        CliqueLabels none = Check.graph(1, 2, "");
+        Check.weights(none, 9);
+        Check.labels(none, 0, 9, -8);
+        Check.handle(none, 8, 9);
+        digest("without a bound", none, "");
     }
 }

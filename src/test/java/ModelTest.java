@@ -1,9 +1,12 @@
 /** Many runs of calls, right and wrong ones, on the class and on the model at once: each answer is the same. */
 public final class ModelTest {
+    /** The document promises nothing about later calls. */
     private static final int CALLS = 512;
+    private static final int CALLS_OF_ONE_STEP = 14;
     private static final int[] ODD = {Integer.MIN_VALUE, Integer.MAX_VALUE, -1, 10, -10, 60, 8, 9, 5, 14};
 
     private long seed;
+    private int calls = 0;
     private CliqueLabels real;
     private Model model;
 
@@ -32,7 +35,7 @@ public final class ModelTest {
         real = new CliqueLabels();
         model = new Model();
         int style = run % 4;
-        for (int k = 0; k < CALLS; k++) {
+        for (int k = 0; calls < CALLS - CALLS_OF_ONE_STEP; k++) {
             int kind = pick(100);
             if (kind < 60) {
                 change(run, k, style);
@@ -43,9 +46,13 @@ public final class ModelTest {
             }
         }
         compare("digest", run, CALLS, () -> real.digest(), () -> model.digest());
+        if (calls > CALLS) {
+            Check.fail("run " + run + " makes " + calls + " calls");
+        }
     }
 
     private void compare(String what, int run, int k, Check.Call mine, Check.Call due) {
+        calls++;
         Check.dueText("run " + run + ", call " + k + ": " + what, Check.answer(mine), Check.answer(due));
     }
 
