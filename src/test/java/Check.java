@@ -119,22 +119,32 @@ final class Check {
         type(x, text);
     }
 
-    /** The joined pairs, as in "01,12". */
+    /** The joined pairs, as in "01,12"; joined has to answer the same both ways round, and count(2) their number. */
     static String edges(CliqueLabels x) {
         StringBuilder all = new StringBuilder();
-        for (int a = 0; a < x.count(0); a++) {
-            for (int b = a + 1; b < x.count(0); b++) {
-                if (x.joined(a, b) == 1) {
+        int n = x.count(0);
+        for (int a = 0; a < n; a++) {
+            for (int b = a; b < n; b++) {
+                int is = x.joined(a, b);
+                if (is == 1) {
                     all.append(all.length() == 0 ? "" : ",").append(a).append(b);
                 }
+                if (x.joined(b, a) != is) {
+                    all.append(" but not ").append(b).append(a);
+                }
             }
+        }
+        int number = x.count(2);
+        if (number != (all.length() + 1) / 3) {
+            all.append(" but count(2) is ").append(number);
         }
         return all.toString();
     }
 
     static String weights(CliqueLabels x) {
         StringBuilder all = new StringBuilder();
-        for (int v = 0; v < x.count(0); v++) {
+        int n = x.count(0);
+        for (int v = 0; v < n; v++) {
             all.append(v == 0 ? "" : " ").append(x.vertex(v, 0));
         }
         return all.toString();
@@ -151,7 +161,8 @@ final class Check {
 
     static String handle(CliqueLabels x) {
         StringBuilder all = new StringBuilder();
-        for (int place = 0; place < x.count(1); place++) {
+        int d = x.count(1);
+        for (int place = 0; place < d; place++) {
             all.append(place == 0 ? "" : " ").append(x.handle(place));
         }
         return all.toString();

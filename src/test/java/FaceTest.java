@@ -5,15 +5,18 @@ import java.lang.reflect.Modifier;
 import java.util.Arrays;
 import java.util.TreeSet;
 
-/** The face is that of the document, and no other member of the class is seen from outside. */
+/** The face is that of the document, with its throws clauses in their order; no other member is seen from outside. */
 public final class FaceTest {
     private static final String[] FACE = {
-        "int begin(int,int)", "int join(int,int,boolean)", "int weigh(int,int)", "int complement()",
-        "int remove(int)", "int multiply(int)", "int label(int,int,int)", "int hold(int,int)", "int labelByColors()",
-        "int takeHandle(int)", "int append(int)", "int clearBuffer()", "int firstError()", "int read()",
-        "int take(int)", "int restore(int)", "int undo()", "int joined(int,int)", "int vertex(int,int)",
-        "int handle(int)", "long bound(int)", "int whyNot(int)", "int whyNotMultiply(int)",
-        "long bestHandle(int,int)", "int count(int)", "double nearness()", "long digest()"};
+        "int begin(int,int) ARGUMENT", "int join(int,int,boolean) INDEX ARGUMENT",
+        "int weigh(int,int) INDEX ARGUMENT", "int complement()", "int remove(int) INDEX STATE",
+        "int multiply(int) INDEX STATE", "int label(int,int,int) INDEX ARGUMENT", "int hold(int,int) INDEX ARGUMENT",
+        "int labelByColors() STATE", "int takeHandle(int) ARGUMENT", "int append(int) ARGUMENT STATE",
+        "int clearBuffer()", "int firstError()", "int read() ARGUMENT", "int take(int) INDEX",
+        "int restore(int) INDEX STATE", "int undo() STATE", "int joined(int,int) INDEX",
+        "int vertex(int,int) INDEX ARGUMENT", "int handle(int) INDEX", "long bound(int) ARGUMENT",
+        "int whyNot(int) ARGUMENT", "int whyNotMultiply(int) INDEX STATE", "long bestHandle(int,int) ARGUMENT",
+        "int count(int) ARGUMENT", "double nearness()", "long digest()"};
 
     public static void main(String[] args) {
         Class<?> face = CliqueLabels.class;
@@ -59,6 +62,11 @@ public final class FaceTest {
         for (Class<?> type : method.getParameterTypes()) {
             all.append(all.charAt(all.length() - 1) == '(' ? "" : ",").append(type.getName());
         }
-        return all.append(')').toString();
+        all.append(')');
+        for (Class<?> kind : method.getExceptionTypes()) {
+            all.append(kind == Check.INDEX ? " INDEX" : kind == Check.ARGUMENT ? " ARGUMENT"
+                : kind == Check.STATE ? " STATE" : " " + kind);
+        }
+        return all.toString();
     }
 }

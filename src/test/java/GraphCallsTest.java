@@ -1,4 +1,4 @@
-/** Promises 1 to 7: a new object, begin, join, weigh, complement, remove, multiply. */
+/** Promises 1 to 7: a new object, begin, join, weigh, complement, remove, multiply (reasons: see TermLimitsTest). */
 public final class GraphCallsTest {
     private static final int LOW = Integer.MIN_VALUE;
     private static final int HIGH = Integer.MAX_VALUE;
@@ -11,7 +11,6 @@ public final class GraphCallsTest {
         promise5();
         promise6();
         promise7();
-        promise7Reasons();
         Check.finish("GraphCallsTest");
     }
 
@@ -205,104 +204,5 @@ public final class GraphCallsTest {
         x.restore(1);
         Check.due("restore leaves the products", x.count(9), 2);
         Check.due("the snapshot stays", x.count(2), 1);
-    }
-
-    private static CliqueLabels pair(int n, int d, int m, int e) {
-        CliqueLabels x = Check.graph(m, e, "");
-        x.take(0);
-        x.begin(n, d);
-        return x;
-    }
-
-    private static void reason(String what, CliqueLabels x, int want) {
-        Check.due(what, x.whyNotMultiply(0), want);
-        if (want == 0) {
-            Check.undoable(what + ": multiply", x, 1, () -> x.multiply(0) > 0 ? 1 : 0);
-        } else {
-            Check.refused(what + ": multiply", x, Check.STATE, () -> x.multiply(0));
-        }
-    }
-
-    private static void promise7Reasons() {
-        CliqueLabels x = new CliqueLabels();
-        Check.refused("multiply(-1)", x, Check.INDEX, () -> x.multiply(-1));
-        Check.refused("multiply(2)", x, Check.INDEX, () -> x.multiply(2));
-        Check.refused("multiply(low)", x, Check.INDEX, () -> x.multiply(LOW));
-        Check.refused("multiply(0) not taken", x, Check.STATE, () -> x.multiply(0));
-        Check.refused("multiply(1) not taken", x, Check.STATE, () -> x.multiply(1));
-        x.take(1);
-        Check.refused("multiply(0) not taken, 1 is", x, Check.STATE, () -> x.multiply(0));
-        reason("8 vertices, dimension 4", pair(4, 2, 2, 2), 0);
-        reason("8 vertices, dimension 3", pair(1, 3, 8, 1), 0);
-        reason("1 vertex, dimension 4 by 1", pair(1, 4, 1, 1), 0);
-        reason("8 vertices by 1, dimension 1 by 4", pair(8, 1, 1, 4), 0);
-        reason("9 vertices", pair(3, 1, 3, 1), 1);
-        reason("64 vertices, dimension 16", pair(8, 4, 8, 4), 1);
-        reason("dimension 6", pair(2, 3, 2, 2), 2);
-        reason("dimension 8", pair(1, 4, 1, 2), 2);
-        weighty(3, 3, 0);
-        weighty(2, 5, 3);
-        weighty(9, 1, 0);
-        weighty(0, 9, 0);
-        numbers(3, 3, 0);
-        numbers(-3, 3, 0);
-        numbers(-1, -9, 0);
-        numbers(0, 9, 0);
-        numbers(2, 5, 4);
-        numbers(-2, 5, 4);
-        numbers(9, 9, 4);
-        order();
-    }
-
-    private static void weighty(int a, int b, int want) {
-        CliqueLabels x = Check.graph(2, 1, "");
-        x.weigh(1, b);
-        x.weigh(0, 0);
-        x.take(0);
-        x.begin(3, 2);
-        x.weigh(0, 0);
-        x.weigh(1, 0);
-        x.weigh(2, a);
-        reason("weights " + a + " and " + b, x, want);
-    }
-
-    private static void numbers(int a, int b, int want) {
-        CliqueLabels x = Check.graph(2, 2, "");
-        x.label(1, 1, b);
-        x.take(0);
-        x.begin(3, 2);
-        x.label(2, 0, a);
-        reason("labels " + a + " and " + b, x, want);
-        CliqueLabels y = Check.graph(2, 2, "");
-        y.hold(0, b);
-        y.take(0);
-        y.begin(3, 2);
-        y.hold(1, a);
-        reason("handles " + a + " and " + b, y, want);
-        CliqueLabels z = Check.graph(1, 2, "");
-        z.hold(0, b);
-        z.take(0);
-        z.begin(1, 2);
-        z.label(0, 1, a);
-        reason("a label " + a + " and a handle " + b, z, 0);
-    }
-
-    /** Where several reasons apply, the first one is told. */
-    private static void order() {
-        CliqueLabels x = Check.graph(3, 3, "");
-        x.weigh(0, 9);
-        x.label(0, 0, 9);
-        x.take(0);
-        reason("all reasons", x, 1);
-        x.remove(1);
-        reason("all but 1", x, 2);
-        x.begin(2, 1);
-        x.weigh(1, 9);
-        x.label(0, 0, -9);
-        reason("3 and 4", x, 3);
-        x.weigh(1, 1);
-        reason("4", x, 4);
-        x.label(0, 0, 1);
-        reason("none", x, 0);
     }
 }
